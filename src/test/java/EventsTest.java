@@ -401,6 +401,19 @@ public final class EventsTest {
         t.send(5, TERM);
         t.exit(3, 0);
         Check.due("what was pending takes effect", t.exists(5), false);
+
+        Signalpost u = chain(3);
+        u.setReaper(2, true);
+        u.beginSession(3);
+        u.fork(3);
+        u.setGroup(3, 4, 4);
+        u.send(4, STOP);
+        u.send(4, TERM);
+        u.waitFor(2, 3, false);
+        u.exit(3, 0);
+        u.waitFor(2, 4, false);
+        Check.due("a reaper in another session keeps no group", u.reportedChild(2), 4);
+        Check.due("HUP was pending before CONT came, so it took effect before TERM", u.reportedValue(2), HUP);
     }
 
     private static void onlyGroupsWithAStoppedMember() {
@@ -409,6 +422,14 @@ public final class EventsTest {
         Check.due("orphaned", s.isOrphaned(4), true);
         Check.due("4 gets no HUP", s.state(4), RUNNING);
         Check.due("5 gets no HUP", s.state(5), RUNNING);
+
+        Signalpost r = jobs();
+        r.fork(2);
+        r.setGroup(2, 6, 6);
+        r.send(6, STOP);
+        r.exit(3, 0);
+        Check.due("a STOPPED member of another group does not count", r.state(4), RUNNING);
+        Check.due("that one stays STOPPED", r.state(6), STOPPED);
 
         Signalpost t = jobs();
         t.send(4, STOP);
