@@ -32,6 +32,7 @@ public final class EventsTest {
         hupComesBeforeCont();
         onlyGroupsWithAStoppedMember();
         onlyGroupsThatWereNotOrphaned();
+        orderOfTheStepsOfAnEnd();
         manyEvents();
         Check.finish();
     }
@@ -456,6 +457,67 @@ public final class EventsTest {
         Check.due("5 stays STOPPED", s.state(5), STOPPED);
         s.exit(4, 0);
         Check.due("5 is STOPPED still", s.state(5), STOPPED);
+    }
+
+    /**
+     * The reaper 2 in the session 1; its child 7, which leads its session and has the terminal; and the children of 7:
+     * 3, 4 and 5, each in a group of its own. The parent has a higher pid than its children, and so is reported last.
+     */
+    private static Signalpost lowChildren() {
+        Signalpost s = new Signalpost();
+        for (int pid = 2; pid <= 6; pid++) {
+            s.fork(1);
+        }
+        s.setReaper(2, true);
+        s.fork(2);
+        for (int pid = 3; pid <= 6; pid++) {
+            s.exit(pid, 0);
+        }
+        s.beginSession(7);
+        s.openTerminal(7);
+        for (int pid = 3; pid <= 5; pid++) {
+            Check.due("low pids", s.fork(7), pid);
+            s.setGroup(7, pid, pid);
+        }
+        return s;
+    }
+
+    private static void orderOfTheStepsOfAnEnd() {
+        Signalpost s = lowChildren();
+        s.setForeground(7, 3);
+        s.exit(4, 0);
+        s.waitAny(2, false);
+        s.exit(7, 0);
+        Check.due("HUP for the foreground comes before the ends of former children", s.reportedChild(2), 3);
+
+        Signalpost t = lowChildren();
+        t.send(3, STOP);
+        t.exit(4, 0);
+        t.waitAny(2, false);
+        t.exit(7, 0);
+        Check.due("the ends of former children come before HUP for orphans", t.reportedChild(2), 4);
+
+        Signalpost u = lowChildren();
+        u.send(3, STOP);
+        u.waitAny(2, false);
+        u.exit(7, 0);
+        Check.due("HUP and CONT for orphans come before its own end", u.reportedChild(2), 3);
+
+        Signalpost v = lowChildren();
+        v.setAction(3, HUP, CATCH);
+        v.send(3, STOP);
+        v.setForeground(7, 3);
+        v.exit(7, 0);
+        Check.due("HUP for the foreground comes before HUP and CONT for orphans", v.caught(3), 1);
+        Check.due("3 was continued", v.state(3), RUNNING);
+
+        Signalpost w = lowChildren();
+        w.exit(5, 0);
+        w.exit(4, 0);
+        w.waitAny(2, false);
+        w.exit(7, 7);
+        Check.due("the lowest former child is told first", w.reportedChild(2), 4);
+        Check.due("7 is left", w.state(7), ZOMBIE);
     }
 
     private static void manyEvents() {

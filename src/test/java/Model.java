@@ -297,6 +297,11 @@ final class Model {
         return need(pid).reportedValue;
     }
 
+    /** For ModelTest, to choose processes: no call of the document. */
+    List<Integer> pids() {
+        return new ArrayList<>(all.keySet());
+    }
+
     // ---- what the calls require
 
     private P need(int pid) {
