@@ -103,7 +103,10 @@ public final class CallEdgesTest {
         Check.notNow("2 none is free", () -> s.fork(1));
     }
 
-    /** "It has the group, session, actions and mask of its parent; no signal is pending or was caught, no wait has ended, and it is no reaper." */
+    /**
+     * "It has the group, session, actions and mask of its parent; no signal is pending or was caught, no wait has
+     * ended, and it is no reaper."
+     */
     private static void forkCopiesThese() {
         Signalpost s = shell(3);
         s.setReaper(3, true);
@@ -184,7 +187,10 @@ public final class CallEdgesTest {
 
     // ---- promise 3
 
-    /** "Each action that is CATCH becomes DEFAULT; CHILD and CONT, if their actions become DEFAULT by that, are not pending any more." */
+    /**
+     * "Each action that is CATCH becomes DEFAULT; CHILD and CONT, if their actions become DEFAULT by that, are not
+     * pending any more."
+     */
     private static void exec() {
         Signalpost s = family(3);
         Check.due("3 none is CATCH", s.exec(3), 0);
@@ -432,7 +438,10 @@ public final class CallEdgesTest {
         Check.due("10 nothing changed", t.group(4), 3);
     }
 
-    /** "group: the pid of target, for a group of its own, or the number of a group that has a member in the session of pid". */
+    /**
+     * "group: the pid of target, for a group of its own, or the number of a group that has a member in the session
+     * of pid".
+     */
     private static void setGroupGroups() {
         Signalpost s = shell(40);
         Check.due("10 group 40", s.setGroup(40, 40, 40), 2);
@@ -576,7 +585,10 @@ public final class CallEdgesTest {
 
     // ---- promise 16
 
-    /** "For each member of the foreground group, by rising pids, the signal INT, or TSTP. Returns how many members it had." */
+    /**
+     * "For each member of the foreground group, by rising pids, the signal INT, or TSTP. Returns how many members
+     * it had."
+     */
     private static void type() {
         Signalpost s = shell(5);
         s.setGroup(2, 4, 3);

@@ -1,4 +1,6 @@
-/** The boundary cases of the promises 18 to 31, one test for each sentence that names some, in the document's order. */
+/**
+ * The boundary cases of the promises 18 to 31, one test for each sentence that names some, in the document's order.
+ */
 public final class QuestionEdgesTest {
     private static final int NONE = Signalpost.NONE;
     private static final int HUP = Signalpost.HUP, KILL = Signalpost.KILL, CHILD = Signalpost.CHILD;

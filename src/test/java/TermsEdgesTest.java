@@ -153,7 +153,9 @@ public final class TermsEdgesTest {
         Check.due("with no exit code to report", s.waitAny(2, true), false);
     }
 
-    /** "Init, the process 1, exists always, is RUNNING, and has the group 1 and the session 1; its parent is NONE." */
+    /**
+     * "Init, the process 1, exists always, is RUNNING, and has the group 1 and the session 1; its parent is NONE."
+     */
     private static void initExistsAlways() {
         Signalpost s = family(5);
         for (int signal = HUP; signal <= USER; signal++) {
@@ -203,7 +205,10 @@ public final class TermsEdgesTest {
         Check.due("fork", s.fork(1), 4);
     }
 
-    /** "A pid is free, if there is no process with it, and no process (ZOMBIE or not) that has it as group or session." */
+    /**
+     * "A pid is free, if there is no process with it, and no process (ZOMBIE or not) that has it as group or
+     * session."
+     */
     private static void pidsThatAreFree() {
         Signalpost s = family(5);
         s.setGroup(3, 3, 3);
@@ -266,7 +271,10 @@ public final class TermsEdgesTest {
         Check.due("3 may", s.terminalSession(), 3);
     }
 
-    /** "A group is orphaned, if no member of it has a parent that is not a ZOMBIE, is in the same session, and in another group." */
+    /**
+     * "A group is orphaned, if no member of it has a parent that is not a ZOMBIE, is in the same session, and in
+     * another group."
+     */
     private static void orphanedByEachCondition() {
         Signalpost s = family(5);
         Check.due("group 1: all parents are in it", s.isOrphaned(1), true);
@@ -478,7 +486,6 @@ public final class TermsEdgesTest {
         t.waitAny(2, false);
         t.send(2, INT);
         Check.due("a blocked one interrupts nothing", t.state(2), WAITING);
-        t.setAction(3, USER, IGNORE);
         t.send(2, CHILD);
         t.send(2, CONT);
         Check.due("an ignored one neither", t.state(2), WAITING);
@@ -635,7 +642,10 @@ public final class TermsEdgesTest {
         Check.due("nor told", s.caught(2), 1);
     }
 
-    /** "If s is another signal, and its action is CATCH, or is DEFAULT and s is neither CHILD nor CONT: s becomes pending." */
+    /**
+     * "If s is another signal, and its action is CATCH, or is DEFAULT and s is neither CHILD nor CONT: s becomes
+     * pending."
+     */
     private static void whatBecomesPending() {
         for (int signal : SETTABLE) {
             for (int action = DEFAULT; action <= CATCH; action++) {
@@ -765,9 +775,13 @@ public final class TermsEdgesTest {
         orphanedByItsOwnMember();
         orphanedFromBefore();
         twoGroupsOrphaned();
+        firstAndLastGroupOrphaned();
     }
 
-    /** "The nearest process among its own parent, that one's parent and so on, that is a reaper and no ZOMBIE; init, if none." */
+    /**
+     * "The nearest process among its own parent, that one's parent and so on, that is a reaper and no ZOMBIE; init,
+     * if none."
+     */
     private static void newParents() {
         Signalpost s = chain(6);
         s.setReaper(2, true);
@@ -816,7 +830,10 @@ public final class TermsEdgesTest {
         Check.due("its end is reported, not its stop", t.waitResult(2), KILLED);
     }
 
-    /** "If it leads its session, and this session has the terminal, the terminal is free, and HUP for each member ..." */
+    /**
+     * "If it leads its session, and this session has the terminal, the terminal is free, and HUP for each member
+     * ..."
+     */
     private static void leaderAndTerminal() {
         Signalpost s = family(6);
         s.beginSession(3);
@@ -990,6 +1007,29 @@ public final class TermsEdgesTest {
         Check.due("6", s.state(6) + 10 * s.caught(6), RUNNING + 10);
     }
 
+    /** The groups 1 and 40, the lowest and the highest number. */
+    private static void firstAndLastGroupOrphaned() {
+        Signalpost s = family(3);
+        s.setGroup(2, 2, 2);
+        s.setAction(3, HUP, CATCH);
+        s.send(3, STOP);
+        Check.due("2 keeps the group 1", s.isOrphaned(1), false);
+        s.exit(2, 0);
+        Check.due("init, the new parent, is in it", s.isOrphaned(1), true);
+        Check.due("3 is continued", s.state(3), RUNNING);
+        Check.due("3 has caught HUP", s.caught(3), 1);
+
+        Signalpost t = family(39);
+        t.beginSession(39);
+        t.fork(39);
+        t.setGroup(39, 40, 40);
+        t.setAction(40, HUP, CATCH);
+        t.send(40, STOP);
+        t.exit(39, 0);
+        Check.due("40 is continued", t.state(40), RUNNING);
+        Check.due("40 has caught HUP", t.caught(40), 1);
+    }
+
     // ---- Waiting
 
     private static void waits() {
@@ -1045,7 +1085,10 @@ public final class TermsEdgesTest {
         Check.due("a certain one, not for stops", t.waitFor(2, 5, false), false);
     }
 
-    /** "The wait ends with EXITED, KILLED (a ZOMBIE, which is removed then) or STOPPED_BY (its stop has been reported then)." */
+    /**
+     * "The wait ends with EXITED, KILLED (a ZOMBIE, which is removed then) or STOPPED_BY (its stop has been
+     * reported then)."
+     */
     private static void howItEnds() {
         Signalpost s = family(3);
         s.send(3, STOP);
