@@ -13,7 +13,6 @@ public final class QuestionsTest {
         terminal();
         waits();
         wrongPids();
-        example();
         Check.finish();
     }
 
@@ -218,23 +217,5 @@ public final class QuestionsTest {
             Check.noSuchProcess("30 reportedChild(" + pid + ")", () -> s.reportedChild(pid));
             Check.noSuchProcess("31 reportedValue(" + pid + ")", () -> s.reportedValue(pid));
         }
-    }
-
-    /** The example of README.md. */
-    private static void example() {
-        Signalpost s = new Signalpost();
-        int shell = s.fork(1);
-        Check.due("README shell", shell, 2);
-        s.beginSession(shell);
-        s.openTerminal(shell);
-        int job = s.fork(shell);
-        Check.due("README job", job, 3);
-        s.setGroup(shell, job, job);
-        s.setForeground(shell, job);
-        Check.due("README waitAny", s.waitAny(shell, true), false);
-        s.type(true);
-        Check.due("README waitResult", s.waitResult(shell), Signalpost.STOPPED_BY);
-        Check.due("README reportedChild", s.reportedChild(shell), 3);
-        Check.due("README reportedValue", s.reportedValue(shell), Signalpost.TSTP);
     }
 }
